@@ -1,0 +1,135 @@
+import java.util.Random;
+
+/** All promises: runs of calls by chance, the same each time, against the plain words. */
+final class RandomRunsTest {
+    private static final int[] LIMITS = {
+        0, 0, 1, 3, 10, 20, 33, 40, 60, 75, 80, 90, 96, 97, 98, 99, 100, 103, 105, 106, 132, 150, 200, 300, 396, 423, 424, 500,
+    };
+
+    private final Random random;
+    private final int run;
+    private final PlaceFinder f = new PlaceFinder();
+    private final PlainFinder plain = new PlainFinder();
+    private int width = 64;
+    private int height = 64;
+
+    private RandomRunsTest(int run) {
+        this.run = run;
+        random = new Random(run);
+    }
+
+    public static void main(String[] args) {
+        int runs = args.length > 0 ? Integer.parseInt(args[0]) : 150;
+        for (int run = 0; run < runs; run++) {
+            new RandomRunsTest(run).small();
+        }
+        for (int run = 0; run < runs / 15; run++) {
+            new RandomRunsTest(1_000_000 + run).great();
+        }
+        Check.end();
+    }
+
+    private void due(String what, long got, long want) {
+        Check.equal("run " + run + ": " + what, got, want);
+    }
+
+    private int between(int least, int most) {
+        return least + random.nextInt(most - least + 1);
+    }
+
+    private void small() {
+        if (run % 4 != 0) {
+            newSheet(between(21, 90), between(21, 90));
+        }
+        ground();
+        for (int step = 0; step < 12; step++) {
+            change(3);
+            int least = between(1, 3);
+            look(least, between(least, 4), LIMITS[random.nextInt(LIMITS.length)]);
+        }
+    }
+
+    private void great() {
+        newSheet(between(300, 512), between(300, 512));
+        ground();
+        for (int step = 0; step < 3; step++) {
+            change(16);
+            change(16);
+            int least = between(8, 16);
+            look(least, between(least, 16), random.nextInt(501));
+        }
+    }
+
+    private void newSheet(int w, int h) {
+        width = w;
+        height = h;
+        f.sheet(w, h);
+        plain.sheet(w, h);
+    }
+
+    private void ground() {
+        int kind = random.nextInt(6);
+        long pattern = random.nextLong();
+        for (int y = 0; y < height && kind != 0; y++) {
+            for (int x = 0; x < width; x += 64) {
+                long noise = random.nextLong();
+                turn(x, y, kind == 1 ? -1L : kind == 2 ? noise : kind == 3 ? noise & random.nextLong() & random.nextLong()
+                    : kind == 4 ? pattern : 0x5555555555555555L << (y & 1));
+            }
+        }
+    }
+
+    private void turn(int x, int y, long bits) {
+        due("turn", f.turn(x, y, bits), plain.turn(x, y, bits));
+    }
+
+    private void change(int mostModule) {
+        for (int i = between(0, 3); i > 0; i--) {
+            int x = between(-20, width);
+            int y = between(-20, height);
+            int w = between(1, 30);
+            int h = between(1, 30);
+            boolean dark = random.nextBoolean();
+            due("fill", f.fill(x, y, w, h, dark), plain.fill(x, y, w, h, dark));
+        }
+        for (int i = between(0, 3); i > 0; i--) {
+            drawOne(between(1, mostModule));
+        }
+        for (int i = between(0, 8); i > 0; i--) {
+            turn(between(-70, width + 3), between(-2, height + 1), random.nextLong() & random.nextLong() & random.nextLong());
+        }
+        int x = between(-70, width + 3);
+        int y = between(-2, height + 1);
+        due("dots", f.dots(x, y), plain.dots(x, y));
+    }
+
+    private void drawOne(int m) {
+        int v = between(1, random.nextBoolean() ? 3 : 12);
+        int length = m * (17 + 4 * v);
+        if (length <= width && length <= height) {
+            int x = between(0, width - length);
+            int y = between(0, height - length);
+            int place = Check.packed(m, v, random.nextInt(4));
+            due("draw", f.draw(x, y, place), plain.draw(x, y, place));
+        }
+    }
+
+    private void look(int least, int most, int limit) {
+        String what = "find(" + least + ", " + most + ", " + limit + ")";
+        int count = plain.find(least, most, limit);
+        due(what, f.find(least, most, limit), count);
+        due(what + " stood", f.stood(), plain.stood());
+        for (int k = -1; k <= count; k++) {
+            for (int i = 0; i < 6; i++) {
+                due(what + " place(" + k + ", " + i + ")", f.place(k, i), plain.place(k, i));
+            }
+        }
+        turn(between(0, width), between(0, height), random.nextLong());
+        for (int k = 0; k < count; k++) {
+            int i = between(-70, 60);
+            int j = between(-1, 40);
+            due(what + " modules", f.modules(k, i, j), plain.modules(k, i, j));
+            due(what + " modules", f.modules(k, 0, j), plain.modules(k, 0, j));
+        }
+    }
+}
