@@ -16,16 +16,16 @@ public final class PlaceFinder {
     private static final int MOST_STANDING = 300;
     private static final int PLACE_BITS = 13;
 
+    private final Search search;
     private final Paper paper;
     private final PlaceList standing;
     private final PlaceList leading;
-    private final Search search;
 
     public PlaceFinder() {
-        paper = new Paper();
-        standing = new PlaceList();
+        search = new Search();
+        paper = search.paper;
+        standing = search.standing;
         leading = new PlaceList();
-        search = new Search(paper, standing);
     }
 
     public void sheet(int width, int height) throws IllegalArgumentException {
@@ -75,9 +75,8 @@ public final class PlaceFinder {
         if (!isWithin(limit, 0, MOST_LIMIT)) {
             throw new IllegalArgumentException("limit is 0 .. 500");
         }
-        paper.addUp();
-        standing.clear();
         leading.clear();
+        paper.addUp();
         if (!search.look(least, most, limit)) {
             standing.clear();
             return NONE;
@@ -450,9 +449,10 @@ public final class PlaceFinder {
      */
     private static final class Search {
         private static final int DEEPEST = 10;
+        private static final int BEYOND_LIMITS = MOST_LIMIT + 1;
 
-        private final Paper paper;
-        private final PlaceList standing;
+        final Paper paper;
+        final PlaceList standing;
         private int limit;
         private int third;
         private int module;
@@ -463,24 +463,33 @@ public final class PlaceFinder {
         private int tileY;
         private int spreadX;
         private int spreadY;
-        private final int[] cornerFloors;
         private final int[] quarterFloors;
+        /**
+         * The wrong dots of the four corners that could have their 7 times 7 modules at a dot, ten
+         * bits each, with one added as 0 is for not known; above these the stamp of the module size
+         * and find() for which they are: so nothing has to be wiped out.
+         */
+        private final long[] known;
+        private int stamp;
 
-        Search(Paper paper, PlaceList standing) {
-            this.paper = paper;
-            this.standing = standing;
-            cornerFloors = new int[4];
+        Search() {
+            paper = new Paper();
+            standing = new PlaceList();
             quarterFloors = new int[4];
+            known = new long[LONGEST * LONGEST];
         }
 
         /** Answers false when a symbol can stand at too many places. */
         boolean look(int least, int most, int mostWrong) {
+            standing.clear();
             limit = mostWrong;
             third = mostWrong / 3;
             tooMany = false;
             int shortest = Math.min(paper.width, paper.height);
-            for (module = least; module <= most && module * Place.sizeOf(1) <= shortest; module++) {
-                siftFinders(0, 0, paper.width - 7 * module, paper.height - 7 * module, 0);
+            for (int m = least; m <= most && m * Place.sizeOf(1) <= shortest; m++) {
+                module = m;
+                stamp++;
+                siftFinders(0, 0, paper.width - 7 * m, paper.height - 7 * m, 0);
             }
             return !tooMany;
         }
@@ -499,25 +508,29 @@ public final class PlaceFinder {
                 siftVersions(left, top, right, bottom);
                 return;
             }
-            int x = (left + right) / 2;
-            int y = (top + bottom) / 2;
-            siftFinders(left, top, x, y, depth + 1);
-            siftFinders(x + 1, top, right, y, depth + 1);
-            siftFinders(left, y + 1, x, bottom, depth + 1);
-            siftFinders(x + 1, y + 1, right, bottom, depth + 1);
+            int middleX = (left + right) / 2;
+            int middleY = (top + bottom) / 2;
+            siftFinders(left, top, middleX, middleY, depth + 1);
+            siftFinders(middleX + 1, top, right, middleY, depth + 1);
+            siftFinders(left, middleY + 1, middleX, bottom, depth + 1);
+            siftFinders(middleX + 1, middleY + 1, right, bottom, depth + 1);
         }
 
         private void siftVersions(int left, int top, int right, int bottom) {
+            boolean single = isSingle();
             for (int corner = 0; corner < 4; corner++) {
                 int quarters = 15 & ~(1 << (corner + 2 & 3));
-                for (int version = 1; version <= MOST_VERSION; version++) {
+                int versions = single && cornerWrong(corner, left, top) > third ? 0 : MOST_VERSION;
+                for (int version = 1; version <= versions; version++) {
                     size = Place.sizeOf(version);
                     int far = (size - 7) * module;
                     int x = isRight(corner) ? far : 0;
                     int y = isLow(corner) ? far : 0;
                     int lastX = Math.min(right - x, paper.width - size * module);
                     int lastY = Math.min(bottom - y, paper.height - size * module);
-                    siftPlaces(corner, quarters, Math.max(left - x, 0), Math.max(top - y, 0), lastX, lastY, 0);
+                    int firstX = Math.max(left - x, 0);
+                    int firstY = Math.max(top - y, 0);
+                    siftPlaces(corner, quarters, firstX, firstY, lastX, lastY, 0);
                 }
             }
         }
@@ -528,72 +541,71 @@ public final class PlaceFinder {
                 return;
             }
             takeTile(left, top, right, bottom);
+            boolean single = isSingle();
             int live = quarters;
             Arrays.fill(quarterFloors, 0);
             for (int step = 0; step < 4; step++) {
                 int corner = first + step & 3;
-                if ((live & ~(1 << (corner + 2 & 3))) != 0) {
-                    int floor = finderFloor(finderX(corner), finderY(corner)) + borderFloor(corner);
-                    cornerFloors[corner] = floor;
-                    live = step == 0 && floor > third ? 0 : withCorner(corner, live);
+                int without = 1 << (corner + 2 & 3);
+                if ((live & ~without) != 0) {
+                    int x = finderX(corner);
+                    int y = finderY(corner);
+                    int floor = single
+                        ? cornerWrong(corner, x, y)
+                        : finderFloor(x, y) + borderFloor(corner, x, y);
+                    boolean isNoFirst = step == 0 && floor > third;
+                    // a place is come upon from each of its good corners, but must count once
+                    boolean isFoundBefore = single && corner < first && floor <= third;
+                    live = isNoFirst || isFoundBefore ? live & without : withCorner(corner, floor, live);
                 }
             }
             for (int q = 0; q < 4; q++) {
-                if ((live >> q & 1) != 0 && quarterFloors[q] + lineFloor(q) + lineFloor(q + 3 & 3) + spotFloor(q) > limit) {
-                    live &= ~(1 << q);
+                if ((live >> q & 1) != 0) {
+                    quarterFloors[q] += spotFloor(q);
+                    if (quarterFloors[q] + lineFloor(q) + lineFloor(q + 3 & 3) > limit) {
+                        live &= ~(1 << q);
+                    }
                 }
             }
             if (live == 0) {
                 return;
             }
-            if (isSingle()) {
-                judge(first, live);
+            if (single) {
+                judge(live);
                 return;
             }
-            int x = (left + right) / 2;
-            int y = (top + bottom) / 2;
-            siftPlaces(first, live, left, top, x, y, depth + 1);
-            siftPlaces(first, live, x + 1, top, right, y, depth + 1);
-            siftPlaces(first, live, left, y + 1, x, bottom, depth + 1);
-            siftPlaces(first, live, x + 1, y + 1, right, bottom, depth + 1);
+            int middleX = (left + right) / 2;
+            int middleY = (top + bottom) / 2;
+            siftPlaces(first, live, left, top, middleX, middleY, depth + 1);
+            siftPlaces(first, live, middleX + 1, top, right, middleY, depth + 1);
+            siftPlaces(first, live, left, middleY + 1, middleX, bottom, depth + 1);
+            siftPlaces(first, live, middleX + 1, middleY + 1, right, bottom, depth + 1);
         }
 
-        /** Adds a corner's wrong dots to the live quarters that have it; answers those still live. */
-        private int withCorner(int corner, int live) {
+        /** Adds a corner's wrong dots to the quarters that have it; answers which are live still. */
+        private int withCorner(int corner, int floor, int live) {
             int left = live;
-            for (int step = 0; step < 4; step++) {
-                if (step != 2) {
-                    int q = corner + step & 3;
-                    quarterFloors[q] += cornerFloors[corner];
-                    if (quarterFloors[q] > limit) {
-                        left &= ~(1 << q);
-                    }
+            for (int step = 3; step <= 5; step++) {
+                int q = corner + step & 3;
+                quarterFloors[q] += floor;
+                if (quarterFloors[q] > limit) {
+                    left &= ~(1 << q);
                 }
             }
             return left;
         }
 
-        private void judge(int first, int live) {
+        private void judge(int live) {
+            int version = (size - 17) / 4;
             for (int q = 0; q < 4; q++) {
-                if ((live >> q & 1) != 0 && !isFoundBefore(first, q)) {
-                    int wrong = quarterFloors[q] + lineWrong(q) + lineWrong(q + 3 & 3) + spotFloor(q);
-                    int version = (size - 17) / 4;
-                    if (wrong <= limit
-                        && !standing.add(Place.keyOf(tileX, tileY, module << 8 | version << 2 | q), wrong)) {
+                if ((live >> q & 1) != 0) {
+                    int wrong = withLine(q + 3 & 3, withLine(q, quarterFloors[q]));
+                    int key = Place.keyOf(tileX, tileY, module << 8 | version << 2 | q);
+                    if (wrong <= limit && !standing.add(key, wrong)) {
                         tooMany = true;
                     }
                 }
             }
-        }
-
-        /** A place is come upon from each of its good corners, but must count once. */
-        private boolean isFoundBefore(int first, int q) {
-            for (int corner = 0; corner < 4 && corner < first; corner++) {
-                if (corner != (q + 2 & 3) && cornerFloors[corner] <= third) {
-                    return true;
-                }
-            }
-            return false;
         }
 
         private void takeTile(int left, int top, int right, int bottom) {
@@ -630,6 +642,32 @@ public final class PlaceFinder {
             return tileY + (isLow(corner) ? (size - 7) * module : 0);
         }
 
+        /** So many dots of a corner are wrong at a single position; not told apart beyond any limit. */
+        private int cornerWrong(int corner, int x, int y) {
+            int m = module;
+            int at = y * LONGEST + x;
+            if (at < 0 || at >= known.length) {
+                return BEYOND_LIMITS;
+            }
+            int shift = 10 * corner;
+            if (known[at] >>> 40 != stamp) {
+                known[at] = (long) stamp << 40;
+            }
+            int before = (int) (known[at] >>> shift) & 1023;
+            if (before != 0) {
+                return before - 1;
+            }
+            // each smaller square has the other colour: its dots count the other way round
+            int whole = paper.countSummed(isRight(corner) ? x - m : x, isLow(corner) ? y - m : y, 8 * m, 8 * m);
+            int wrong = whole + 33 * m * m
+                - 2 * paper.countSummed(x, y, 7 * m, 7 * m)
+                + 2 * paper.countSummed(x + m, y + m, 5 * m, 5 * m)
+                - 2 * paper.countSummed(x + 2 * m, y + 2 * m, 3 * m, 3 * m);
+            wrong = Math.min(wrong, BEYOND_LIMITS);
+            known[at] |= (long) (wrong + 1) << shift;
+            return wrong;
+        }
+
         /** At least so many of the 7 times 7 modules' dots are wrong. */
         private int finderFloor(int x, int y) {
             int m = module;
@@ -642,10 +680,8 @@ public final class PlaceFinder {
         }
 
         /** At least so many dots are wrong of the light modules between a corner and the rest. */
-        private int borderFloor(int corner) {
+        private int borderFloor(int corner, int x, int y) {
             int m = module;
-            int x = finderX(corner);
-            int y = finderY(corner);
             int besideX = isRight(corner) ? x - m : x + 7 * m;
             int besideY = isLow(corner) ? y - m : y + 7 * m;
             return leastDark(besideX, y, m, 7 * m) + leastDark(Math.min(x, besideX), besideY, 8 * m, m);
@@ -653,9 +689,9 @@ public final class PlaceFinder {
 
         /** At least so many dots are wrong of the modules that change along a side. */
         private int lineFloor(int side) {
-            int long_ = (size - 16) * module;
-            int w = side % 2 == 0 ? long_ : module;
-            int h = side % 2 == 0 ? module : long_;
+            int length = (size - 16) * module;
+            int w = side % 2 == 0 ? length : module;
+            int h = side % 2 == 0 ? module : length;
             int due = (size - 15) / 2 * module * module;
             int x = lineX(side);
             int y = lineY(side);
@@ -663,15 +699,18 @@ public final class PlaceFinder {
             return missing > 0 ? missing : Math.max(leastDark(x, y, w, h) - due, 0);
         }
 
-        /** How many dots are wrong of the modules that change along a side, at a single position. */
-        private int lineWrong(int side) {
+        /**
+         * Adds the wrong dots of the modules that change along a side, at a single position, but
+         * no more of them once there are too many.
+         */
+        private int withLine(int side, int wrongBefore) {
             int m = module;
             int stepX = side % 2 == 0 ? m : 0;
             int stepY = m - stepX;
             int x = lineX(side);
             int y = lineY(side);
-            int wrong = 0;
-            for (int i = 0; i < size - 16; i++) {
+            int wrong = wrongBefore;
+            for (int i = 0; i < size - 16 && wrong <= limit; i++) {
                 int dark = paper.countSummed(x + i * stepX, y + i * stepY, m, m);
                 wrong += i % 2 == 0 ? m * m - dark : dark;
             }

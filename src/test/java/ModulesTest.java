@@ -28,7 +28,7 @@ final class ModulesTest {
                 }
                 String what = "m " + m + " q " + q + " with " + dark + " dark";
                 Check.equal(what, f.modules(0, 12, 11), 2 * dark > m * m ? 1 : 0);
-                Check.equal(what + ", from module 2 on", f.modules(0, 2, 11), 2 * dark > m * m ? 1 << 10 | 0 : 0);
+                Check.equal(what + ", from module 2 on", f.modules(0, 2, 11), 2 * dark > m * m ? 1 << 10 : 0);
                 Check.equal(what + ", beside it", f.modules(0, 13, 11) | f.modules(0, 12, 10), 0);
             }
             Check.equal("row 0", f.modules(0, 0, 0), 0b1111111_00000000000_1111111);
