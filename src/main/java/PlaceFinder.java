@@ -424,7 +424,7 @@ public final class PlaceFinder {
             }
         }
 
-        /** How many dots are dark when addUp() was called; 0 where w or h leaves no dots. */
+        /** How many dots were dark when addUp() was called; 0 where w or h leaves no dots. */
         int countSummed(int x, int y, int w, int h) {
             if (w <= 0 || h <= 0 || x < 0 || y < 0 || x > width - w || y > height - h) {
                 return 0;
@@ -536,7 +536,8 @@ public final class PlaceFinder {
         }
 
         /** The tile's positions are those of places; its first corner is the one that was found. */
-        private void siftPlaces(int first, int quarters, int left, int top, int right, int bottom, int depth) {
+        private void siftPlaces(
+                int first, int quarters, int left, int top, int right, int bottom, int depth) {
             if (tooMany || depth > DEEPEST || left > right || top > bottom) {
                 return;
             }
@@ -556,7 +557,9 @@ public final class PlaceFinder {
                     boolean isNoFirst = step == 0 && floor > third;
                     // a place is come upon from each of its good corners, but must count once
                     boolean isFoundBefore = single && corner < first && floor <= third;
-                    live = isNoFirst || isFoundBefore ? live & without : withCorner(corner, floor, live);
+                    live = isNoFirst || isFoundBefore
+                        ? live & without
+                        : withCorner(corner, floor, live);
                 }
             }
             for (int q = 0; q < 4; q++) {
@@ -645,10 +648,13 @@ public final class PlaceFinder {
         /** So many dots of a corner are wrong at a single position; not told apart beyond any limit. */
         private int cornerWrong(int corner, int x, int y) {
             int m = module;
-            int at = y * LONGEST + x;
-            if (at < 0 || at >= known.length) {
+            int left = isRight(corner) ? x - m : x;
+            int top = isLow(corner) ? y - m : y;
+            // no symbol has its corner where the corner is not wholly on the sheet
+            if (left < 0 || top < 0 || left > paper.width - 8 * m || top > paper.height - 8 * m) {
                 return BEYOND_LIMITS;
             }
+            int at = y * LONGEST + x;
             int shift = 10 * corner;
             if (known[at] >>> 40 != stamp) {
                 known[at] = (long) stamp << 40;
@@ -658,8 +664,8 @@ public final class PlaceFinder {
                 return before - 1;
             }
             // each smaller square has the other colour: its dots count the other way round
-            int whole = paper.countSummed(isRight(corner) ? x - m : x, isLow(corner) ? y - m : y, 8 * m, 8 * m);
-            int wrong = whole + 33 * m * m
+            int wrong = 33 * m * m
+                + paper.countSummed(left, top, 8 * m, 8 * m)
                 - 2 * paper.countSummed(x, y, 7 * m, 7 * m)
                 + 2 * paper.countSummed(x + m, y + m, 5 * m, 5 * m)
                 - 2 * paper.countSummed(x + 2 * m, y + 2 * m, 3 * m, 3 * m);

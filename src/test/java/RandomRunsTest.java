@@ -19,7 +19,7 @@ final class RandomRunsTest {
     }
 
     public static void main(String[] args) {
-        int runs = args.length > 0 ? Integer.parseInt(args[0]) : 150;
+        int runs = args.length > 0 ? Integer.parseInt(args[0]) : 100;
         for (int run = 0; run < runs; run++) {
             new RandomRunsTest(run).small();
         }
