@@ -120,9 +120,9 @@ public final class PlaceFinder {
         Place found = new Place(leading.keys[k]);
         long answer = 0;
         for (int bit = 0; bit < 64; bit++) {
-            // i may be so great that an int would wrap around and come back among the modules
-            long column = (long) i + bit;
-            if (found.hasModule(column, j) && isMostlyDark(found, (int) column, j)) {
+            // behind the greatest int come those far below 0, which are no modules either
+            int column = i + bit;
+            if (found.hasModule(column, j) && isMostlyDark(found, column, j)) {
                 answer |= 1L << bit;
             }
         }
@@ -226,7 +226,7 @@ public final class PlaceFinder {
                 && topOf(other) < topOf(one) + oneLength;
         }
 
-        boolean hasModule(long i, int j) {
+        boolean hasModule(int i, int j) {
             return i >= 0 && i < size && j >= 0 && j < size;
         }
 

@@ -9,6 +9,12 @@ final class FindTest {
         moduleRange();
         sheetsThatJustFit();
         overlaps();
+        touching(true, true);
+        touching(true, false);
+        touching(false, true);
+        touching(false, false);
+        oneCommonDot(true);
+        oneCommonDot(false);
         notTheBestOfTheLeading();
         sameWrongDots();
         order();
@@ -94,6 +100,31 @@ final class FindTest {
         Check.equal("none behind", f.place(3, 0), PlaceFinder.NONE);
     }
 
+    /** Two that touch have no dot in common, whichever of them is the better one. */
+    private static void touching(boolean beside, boolean firstIsWorse) {
+        PlaceFinder f = new PlaceFinder();
+        int x = beside ? 21 : 0;
+        int y = beside ? 0 : 21;
+        f.draw(0, 0, Check.packed(1, 1, 0));
+        f.draw(x, y, Check.packed(1, 1, 0));
+        f.turn(firstIsWorse ? 0 : x, firstIsWorse ? 0 : y, 1);
+        Check.equal("touching: find", f.find(1, 1, 1), 2);
+        placeIs("touching", f, 0, 0, 0, 1, 1, 0, firstIsWorse ? 1 : 0);
+        placeIs("touching", f, 1, x, y, 1, 1, 0, firstIsWorse ? 0 : 1);
+    }
+
+    /** Two that have but one dot in common, which is free in one of them. */
+    private static void oneCommonDot(boolean firstIsWorse) {
+        PlaceFinder f = new PlaceFinder();
+        f.draw(0, 0, Check.packed(1, 1, 0));
+        f.draw(20, 20, Check.packed(1, 1, 0));
+        f.turn(firstIsWorse ? 0 : 40, firstIsWorse ? 0 : 20, 1);
+        Check.equal("one common dot: find", f.find(1, 1, 1), 1);
+        Check.equal("one common dot: stood", f.stood(), 2);
+        int at = firstIsWorse ? 20 : 0;
+        placeIs("one common dot", f, 0, at, at, 1, 1, 0, 0);
+    }
+
     /** The middle one beats the last and is beaten by the first: neither of the two leads. */
     private static void notTheBestOfTheLeading() {
         PlaceFinder f = new PlaceFinder();
@@ -164,6 +195,13 @@ final class FindTest {
         f.sheet(21 + 75, 21);
         Check.equal("304: find", f.find(1, 1, 106), PlaceFinder.NONE);
         Check.equal("304: stood", f.stood(), 0);
+        // light in the last place of each quarter but 3
+        f.turn(95, 7, 1);
+        Check.equal("301: find", f.find(1, 1, 106), PlaceFinder.NONE);
+        // light in the last place of each quarter but 0
+        f.turn(95, 13, 1);
+        Check.equal("300 of 304: find", f.find(1, 1, 106), 1);
+        Check.equal("300 of 304: stood", f.stood(), 300);
     }
 
     private static void foundStays() {

@@ -55,6 +55,7 @@ final class SheetTest {
         Check.equal("sheet: stood()", f.stood(), 0);
         Check.equal("sheet: place(0, 2)", f.place(0, 2), PlaceFinder.NONE);
         Check.thrown("sheet: modules", IndexOutOfBoundsException.class, () -> f.modules(0, 0, 0));
+        Check.equal("sheet: nothing to find", f.find(1, 16, 0), 0);
     }
 
     private static void wrongSheets() {
