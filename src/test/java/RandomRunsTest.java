@@ -2,6 +2,7 @@ import java.util.Random;
 
 /** All promises: runs of calls by chance, the same each time, against the plain words. */
 final class RandomRunsTest {
+    private static final int MOST_CALLS = 512;
     private static final int[] LIMITS = {
         0, 0, 1, 3, 10, 20, 33, 40, 60, 75, 80, 90, 96, 97, 98, 99, 100, 103, 105, 106, 132, 150, 200, 300, 396, 423, 424, 500,
     };
@@ -12,6 +13,7 @@ final class RandomRunsTest {
     private final PlainFinder plain = new PlainFinder();
     private int width = 64;
     private int height = 64;
+    private int calls = 0;
 
     private RandomRunsTest(int run) {
         this.run = run;
@@ -29,8 +31,12 @@ final class RandomRunsTest {
         Check.end();
     }
 
-    private void due(String what, long got, long want) {
-        Check.equal("run " + run + ": " + what, got, want);
+    /** What an object answers beyond its 512 calls is free. */
+    private void due(String what, Check.Call got, Check.Call want) {
+        if (calls < MOST_CALLS) {
+            calls++;
+            Check.equal("run " + run + ": " + what, got.answer(), want.answer());
+        }
     }
 
     private int between(int least, int most) {
@@ -51,7 +57,10 @@ final class RandomRunsTest {
 
     private void great() {
         newSheet(between(300, 512), between(300, 512));
-        ground();
+        // a call for each 64 dots of a row would be more than an object has
+        for (int i = between(0, 250); i > 0; i--) {
+            fillOne(90);
+        }
         for (int step = 0; step < 3; step++) {
             change(16);
             change(16);
@@ -63,6 +72,7 @@ final class RandomRunsTest {
     private void newSheet(int w, int h) {
         width = w;
         height = h;
+        calls++;
         f.sheet(w, h);
         plain.sheet(w, h);
     }
@@ -80,17 +90,12 @@ final class RandomRunsTest {
     }
 
     private void turn(int x, int y, long bits) {
-        due("turn", f.turn(x, y, bits), plain.turn(x, y, bits));
+        due("turn", () -> f.turn(x, y, bits), () -> plain.turn(x, y, bits));
     }
 
     private void change(int mostModule) {
         for (int i = between(0, 3); i > 0; i--) {
-            int x = between(-20, width);
-            int y = between(-20, height);
-            int w = between(1, 30);
-            int h = between(1, 30);
-            boolean dark = random.nextBoolean();
-            due("fill", f.fill(x, y, w, h, dark), plain.fill(x, y, w, h, dark));
+            fillOne(30);
         }
         for (int i = between(0, 3); i > 0; i--) {
             drawOne(between(1, mostModule));
@@ -100,7 +105,16 @@ final class RandomRunsTest {
         }
         int x = between(-70, width + 3);
         int y = between(-2, height + 1);
-        due("dots", f.dots(x, y), plain.dots(x, y));
+        due("dots", () -> f.dots(x, y), () -> plain.dots(x, y));
+    }
+
+    private void fillOne(int longest) {
+        int x = between(-20, width);
+        int y = between(-20, height);
+        int w = between(1, longest);
+        int h = between(1, longest);
+        boolean dark = random.nextBoolean();
+        due("fill", () -> f.fill(x, y, w, h, dark), () -> plain.fill(x, y, w, h, dark));
     }
 
     private void drawOne(int m) {
@@ -110,26 +124,29 @@ final class RandomRunsTest {
             int x = between(0, width - length);
             int y = between(0, height - length);
             int place = Check.packed(m, v, random.nextInt(4));
-            due("draw", f.draw(x, y, place), plain.draw(x, y, place));
+            due("draw", () -> f.draw(x, y, place), () -> plain.draw(x, y, place));
         }
     }
 
     private void look(int least, int most, int limit) {
         String what = "find(" + least + ", " + most + ", " + limit + ")";
-        int count = plain.find(least, most, limit);
-        due(what, f.find(least, most, limit), count);
-        due(what + " stood", f.stood(), plain.stood());
-        for (int k = -1; k <= count; k++) {
-            for (int i = 0; i < 6; i++) {
-                due(what + " place(" + k + ", " + i + ")", f.place(k, i), plain.place(k, i));
+        due(what, () -> f.find(least, most, limit), () -> plain.find(least, most, limit));
+        int count = plain.count();
+        due(what + " stood", () -> f.stood(), () -> plain.stood());
+        for (int place = -1; place <= count; place++) {
+            int k = place;
+            for (int number = 0; number < 6; number++) {
+                int i = number;
+                due(what + " place(" + k + ", " + i + ")", () -> f.place(k, i), () -> plain.place(k, i));
             }
         }
         turn(between(0, width), between(0, height), random.nextLong());
-        for (int k = 0; k < count; k++) {
+        for (int place = 0; place < count; place++) {
+            int k = place;
             int i = between(-70, 60);
             int j = between(-1, 40);
-            due(what + " modules", f.modules(k, i, j), plain.modules(k, i, j));
-            due(what + " modules", f.modules(k, 0, j), plain.modules(k, 0, j));
+            due(what + " modules", () -> f.modules(k, i, j), () -> plain.modules(k, i, j));
+            due(what + " modules", () -> f.modules(k, 0, j), () -> plain.modules(k, 0, j));
         }
     }
 }
