@@ -184,10 +184,14 @@ final class FindEdgesTest {
     /** The same, where but one of them leads. */
     private static void threeHundredOfOneKind() {
         PlaceFinder f = new PlaceFinder();
-        f.sheet(21 + 74, 21);
-        Check.equal("300 in a row: find", f.find(1, 1, 106), 1);
-        Check.equal("300 in a row: stood", f.stood(), 300);
-        Check.placeIs("300 in a row", f, 0, 0, 0, 1, 1, 0, 106);
+        int[][] sheets = {{21 + 74, 21}, {21, 21 + 74}, {21 + 24, 21 + 2}, {21 + 4, 21 + 14}};
+        for (int[] s : sheets) {
+            String what = "300 on " + s[0] + " times " + s[1];
+            f.sheet(s[0], s[1]);
+            Check.equal(what + ": find", f.find(1, 1, 106), 1);
+            Check.equal(what + ": stood", f.stood(), 300);
+            Check.placeIs(what, f, 0, 0, 0, 1, 1, 0, 106);
+        }
     }
 
     /** Promise 7: "NONE, and nothing is found, when there are more than 300": one more. */
@@ -204,6 +208,9 @@ final class FindEdgesTest {
         f.turn(95, 13, 1);
         Check.equal("300 of 304: find", f.find(1, 1, 106), 1);
         Check.equal("300 of 304: stood", f.stood(), 300);
+        f.sheet(21, 21 + 75);
+        Check.equal("304 in a column: find", f.find(1, 1, 106), PlaceFinder.NONE);
+        Check.nothingFound("304 in a column", f);
     }
 
     /** The same, where the one more has another module size than the 300. */
@@ -265,9 +272,13 @@ final class FindEdgesTest {
     /** Promise 8: "At how many places a symbol could stand": those that do not lead are among them. */
     private static void stoodCountsWhatDoesNotLead() {
         PlaceFinder f = new PlaceFinder();
-        f.sheet(23, 22);
-        Check.equal("3 times 2 places: find", f.find(1, 1, 106), 1);
-        Check.equal("3 times 2 places: stood", f.stood(), 3 * 2 * 4);
+        for (int width = 21; width <= 28; width++) {
+            for (int height = 21; height <= 28; height++) {
+                f.sheet(width, height);
+                Check.equal("light " + width + " times " + height + ": find", f.find(1, 1, 106), 1);
+                Check.equal("light " + width + " times " + height + ": stood", f.stood(), (width - 20) * (height - 20) * 4);
+            }
+        }
     }
 
     /** Promise 8: "when find() looked last": not by the sheet as it is now, nor by a refused call. */
@@ -283,23 +294,41 @@ final class FindEdgesTest {
         Check.equal("stood, filled", f.stood(), 2);
     }
 
-    /** Promise 9: "NONE when there is none such". */
+    /** Promise 9: "NONE when there is none such": by no find() yet, by one that found some, none or too many. */
     private static void noPlaceK() {
-        int[] ks = {1, 2, 299, 300, 301, 512, 65_536, GREAT, -1, -2, -300, LOW};
-        PlaceFinder f = withOneFound();
-        PlaceFinder fresh = new PlaceFinder();
+        noPlaceK(new PlaceFinder(), 0);
+        noPlaceK(withOneFound(), 1);
+        noPlaceK(withFiveFound(), 5);
+        PlaceFinder none = withFiveFound();
+        Check.equal("found none", none.find(2, 2, 0), 0);
+        noPlaceK(none, 0);
+        PlaceFinder tooMany = withFiveFound();
+        Check.equal("found too many", tooMany.find(1, 1, 500), PlaceFinder.NONE);
+        noPlaceK(tooMany, 0);
+        PlaceFinder another = withFiveFound();
+        another.sheet(64, 64);
+        noPlaceK(another, 0);
+    }
+
+    private static PlaceFinder withFiveFound() {
+        PlaceFinder f = new PlaceFinder();
+        for (int k = 0; k < 5; k++) {
+            f.draw(k % 3 * 21, k / 3 * 21, Check.packed(1, 1, k % 4));
+        }
+        Check.equal("found", f.find(1, 1, 0), 5);
+        return f;
+    }
+
+    private static void noPlaceK(PlaceFinder f, int found) {
+        int[] ks = {found, found + 1, 299, 300, 301, 512, 65_536, GREAT, -1, -2, -4, -300, LOW, LOW + 1};
         for (int k : ks) {
             for (int what = 0; what < 6; what++) {
-                Check.equal("place(" + k + ", " + what + ")", f.place(k, what), PlaceFinder.NONE);
-                Check.equal("new: place(" + k + ", " + what + ")", fresh.place(k, what), PlaceFinder.NONE);
+                Check.equal(found + " found: place(" + k + ", " + what + ")", f.place(k, what), PlaceFinder.NONE);
             }
         }
-        Check.placeIs("place 0", f, 0, 9, 8, 1, 1, 1, 0);
-        f.find(2, 2, 0);
-        Check.equal("found none: place(0, 0)", f.place(0, 0), PlaceFinder.NONE);
-        f.find(1, 1, 500);
-        Check.equal("found too many: place(0, 0)", f.place(0, 0), PlaceFinder.NONE);
-        Check.equal("found too many: place(299, 0)", f.place(299, 0), PlaceFinder.NONE);
+        for (int k = 0; k < found; k++) {
+            Check.equal(found + " found: place(" + k + ", 2)", f.place(k, 2), 1);
+        }
     }
 
     /** Promise 9: "place k that was found": fewer than those at which one could stand. */

@@ -45,6 +45,13 @@ final class ModulesEdgesTest {
             }
         }
         Check.equal("modules(0, 0, 0)", f.modules(0, 0, 0), (1 << 21) - 1);
+        PlaceFinder two = new PlaceFinder();
+        two.draw(0, 0, Check.packed(1, 1, 0));
+        two.draw(30, 30, Check.packed(1, 1, 0));
+        Check.equal("two found", two.find(1, 1, 0), 2);
+        Check.equal("two found: modules(1, 0, 20)", two.modules(1, 0, 20), 0b1111111);
+        Check.outOfBounds("two found: modules(-1, 0, 0)", () -> two.modules(-1, 0, 0));
+        Check.outOfBounds("two found: modules(2, 0, 0)", () -> two.modules(2, 0, 0));
     }
 
     /** The same, when nothing is found: by no find() yet, by one that found none or too many, on a new sheet. */
@@ -75,6 +82,14 @@ final class ModulesEdgesTest {
             int other = k;
             Check.outOfBounds("one that does not lead", () -> f.modules(other, 0, 0));
         }
+        PlaceFinder second = new PlaceFinder();
+        second.draw(0, 0, Check.packed(1, 1, 0));
+        second.draw(20, 20, Check.packed(1, 1, 2));
+        second.turn(0, 0, 1);
+        Check.equal("the second one leads: find", second.find(1, 1, 1), 1);
+        Check.equal("the second one leads: stood", second.stood(), 2);
+        Check.equal("the second one leads", second.modules(0, 0, 20), 0b1111111);
+        Check.equal("the second one leads: its row 0", second.modules(0, 0, 0), 0b1111111_0000000_1111111);
     }
 
     /** "from module i on, up to 64": 64 of 65, of 61 and of 177. */

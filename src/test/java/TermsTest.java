@@ -13,6 +13,7 @@ final class TermsTest {
         notBeyondTheSheet();
         canStand();
         canStandWhereverWrong();
+        canStandByOneGoodCorner();
         greatestLimit();
         fewerWrongDotsLead();
         asManyAndBeforeItByY();
@@ -193,6 +194,38 @@ final class TermsTest {
             for (int q = 0; q < 4; q++) {
                 standsWith(2, 5, q, share);
             }
+        }
+    }
+
+    /** The same on light sheets, where three corners of the four are darker than they should be. */
+    private static void canStandByOneGoodCorner() {
+        for (int good = 0; good < 4; good++) {
+            for (int width = 21; width <= 24; width++) {
+                for (int height = 21; height <= 24; height++) {
+                    for (int limit = 118; limit <= 125; limit++) {
+                        byOneGoodCorner(good, width, height, limit);
+                    }
+                }
+            }
+        }
+    }
+
+    private static void byOneGoodCorner(int good, int width, int height, int limit) {
+        int[][] corners = {{0, 0}, {14, 0}, {14, 14}, {0, 14}};
+        PlainFinder plain = new PlainFinder();
+        plain.sheet(width, height);
+        for (int corner = 0; corner < 4; corner++) {
+            if (corner != good) {
+                plain.turn(corners[corner][0] + 1, corners[corner][1] + 1, 0b11111);
+                plain.turn(corners[corner][0] + 1, corners[corner][1] + 5, 0b111);
+            }
+        }
+        PlaceFinder f = plain.copied();
+        String what = "good is " + good + " of " + width + " times " + height + " with " + limit;
+        Check.equal(what + ": find", f.find(1, 16, limit), plain.find(1, 16, limit));
+        Check.equal(what + ": stood", f.stood(), plain.stood());
+        for (int number = 0; number < 6; number++) {
+            Check.equal(what + ": place(0, " + number + ")", f.place(0, number), plain.place(0, number));
         }
     }
 
