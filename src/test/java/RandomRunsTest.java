@@ -28,6 +28,9 @@ final class RandomRunsTest {
         for (int run = 0; run < runs / 15; run++) {
             new RandomRunsTest(1_000_000 + run).great();
         }
+        for (int run = 0; run < runs / 15; run++) {
+            new RandomRunsTest(2_000_000 + run).middle();
+        }
         Check.end();
     }
 
@@ -69,6 +72,23 @@ final class RandomRunsTest {
         }
     }
 
+    /** The greatest versions fit with modules of one dot. */
+    private void middle() {
+        newSheet(between(177, 220), between(177, 220));
+        for (int i = between(0, 100); i > 0; i--) {
+            fillOne(60);
+        }
+        for (int i = between(2, 6); i > 0; i--) {
+            drawOne(1, 40);
+        }
+        for (int i = between(0, 20); i > 0; i--) {
+            turn(between(-70, width + 3), between(-2, height + 1), random.nextLong() & random.nextLong());
+        }
+        drawOne(1, 40);
+        // with more wrong dots, symbols of one dot a module stand nearly everywhere
+        look(1, between(1, 3), between(0, 75));
+    }
+
     private void newSheet(int w, int h) {
         width = w;
         height = h;
@@ -98,7 +118,7 @@ final class RandomRunsTest {
             fillOne(30);
         }
         for (int i = between(0, 3); i > 0; i--) {
-            drawOne(between(1, mostModule));
+            drawOne(between(1, mostModule), random.nextBoolean() ? 3 : 12);
         }
         for (int i = between(0, 8); i > 0; i--) {
             turn(between(-70, width + 3), between(-2, height + 1), random.nextLong() & random.nextLong() & random.nextLong());
@@ -117,8 +137,8 @@ final class RandomRunsTest {
         due("fill", () -> f.fill(x, y, w, h, dark), () -> plain.fill(x, y, w, h, dark));
     }
 
-    private void drawOne(int m) {
-        int v = between(1, random.nextBoolean() ? 3 : 12);
+    private void drawOne(int m, int mostVersion) {
+        int v = between(1, mostVersion);
         int length = m * (17 + 4 * v);
         if (length <= width && length <= height) {
             int x = between(0, width - length);
